@@ -109,6 +109,16 @@ public final class BargeTest {
         c.is("22 still level 20", false, x.isAfloat(0));
         x.rain(0, 1);
         c.is("22 level 21 again", true, x.isAfloat(0));
+        BargeRiver y = new BargeRiver();
+        y.addReach(10, 9, 20, 50, 15);
+        y.addBarge(1, 40, 5, 10);
+        y.buy(0, 21);
+        y.endWeek();
+        c.is("22 21 tons of 10 at level 8", false, y.isAfloat(0));
+        c.is("39 greatestLoad", 0, y.greatestLoad(0));
+        y.sell(0, 1);
+        c.is("22 20 tons of 10 at level 8", true, y.isAfloat(0));
+        c.is("39 greatestLoad", 0, y.greatestLoad(0));
     }
 
     private static void wrongBarges() {

@@ -15,6 +15,7 @@ public final class ReachTest {
         chambersTurn();
         rainFallsAndOverflows();
         wrongRain();
+        sixFullReaches();
         weeksAndPrices();
         pricesAreCompared();
         pricesStayInBounds();
@@ -158,8 +159,8 @@ public final class ReachTest {
         c.is("5 nothing is left", 0, x.volumeOf(0));
         c.is("12 a full chamber is emptied without water above", false, x.turn(0));
         c.is("13 all through", 600, x.waterThrough(0));
-        c.is("12 the movements", "0>10:200 10>1:200 1>11:60 11>2:60 0>10:200 10>1:200 0>10:200 10>1:200",
-                Check.movements(x, 2));
+        c.is("12 the movements", "0>10:200 10>1:200 1>11:60 11>2:60 0>10:200 10>1:200 0>10:200"
+                + " 10>1:200", Check.movements(x, 2));
         c.refuses("12 too little water", UnsupportedOperationException.class, x, () -> x.turn(0));
         x.rain(0, 199);
         c.refuses("12 199 of 200", UnsupportedOperationException.class, x, () -> x.turn(0));
@@ -197,6 +198,32 @@ public final class ReachTest {
         c.is("14 what the next reach can hold", 0, y.rain(0, 1200));
         c.is("14 it holds it", 600, y.volumeOf(1));
         c.is("14 then the sea", 3, y.rain(0, 3));
+    }
+
+    private static void sixFullReaches() {
+        BargeRiver x = new BargeRiver();
+        for (int reach = 1; reach < 6; reach++) {
+            x.addReach(1, 60, 1, 10, 5);
+        }
+        c.is("12 a lockful of 1", true, x.turn(0));
+        c.is("11 isFull", true, x.isFull(0));
+        c.is("12 a lockful of 1", false, x.turn(0));
+        c.is("14 up to the brim", 0, x.rain(0, 601));
+        int before = x.movementCount();
+        c.is("14 all goes into the sea", 7, x.rain(0, 7));
+        c.is("14 over six reaches", "-1>0:7 0>1:7 1>2:7 2>3:7 3>4:7 4>5:7 5>-2:7",
+                Check.movements(x, before));
+        before = x.movementCount();
+        c.is("15 endWeek of six", 5, x.endWeek());
+        c.is("15 its movements", "0>-3:20 1>-3:1 2>-3:1 3>-3:1 4>-3:1 5>-3:1",
+                Check.movements(x, before));
+        c.is("45 heldTotal of six", 1475, x.heldTotal());
+        c.is("50 meanLevel of six", 59.0, x.meanLevel());
+        c.is("51 isBalanced", true, x.isBalanced());
+        x.addBarge(0, 10, 2, 1);
+        c.is("41 bestReach of six", 0, x.bestReach(0));
+        x.buy(0, 2);
+        c.is("41 bestReach of six", 1, x.bestReach(0));
     }
 
     private static void wrongRain() {

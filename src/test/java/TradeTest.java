@@ -219,6 +219,7 @@ public final class TradeTest {
         x.uncouple(1);
         c.is("41 but not for the barge alone", 2, x.bestReach(0));
         x.couple(1, 0);
+        c.is("41 the first one is too long", 0, x.bestReach(0));
         while (x.levelOf(1) > 4) {
             x.endWeek();
         }
