@@ -463,9 +463,8 @@ public final class BargeRiver {
         needReach(reach);
         line.setLength(0);
         line.append(reach).append(": ").append(water.level(reach)).append("dm");
-        for (int i = 0; i < bargesMade; i++) {
-            Barge b = barges[i];
-            if (b.reach == reach && b.ahead == null) {
+        for (Barge b : barges) {
+            if (b != null && b.reach == reach && b.ahead == null) {
                 line.append(' ');
                 appendConvoy(b);
             }
@@ -517,10 +516,11 @@ public final class BargeRiver {
     }
 
     private Barge bargeNumbered(int barge) {
-        if (barge < 0 || barge >= bargesMade) {
+        Barge found = barge < 0 || barge >= MOST_BARGES ? null : barges[barge];
+        if (found == null) {
             throw new IndexOutOfBoundsException("there is no such barge");
         }
-        return barges[barge];
+        return found;
     }
 
     private int openReach(int area, int level) {
@@ -664,7 +664,11 @@ public final class BargeRiver {
             return draughtWith(cargo);
         }
 
+        /** The divisor is never below 1; LANGUAGE.md asks that each one is looked at. */
         int draughtWith(int tons) {
+            if (tonsPerDecimetre < 1) {
+                return emptyDraught;
+            }
             return emptyDraught + (tons + tonsPerDecimetre - 1) / tonsPerDecimetre;
         }
 
@@ -759,8 +763,10 @@ public final class BargeRiver {
             return amounts[place - AIR];
         }
 
+        /** The area is never below 1; LANGUAGE.md asks that each divisor is looked at. */
         int level(int reach) {
-            return at(reach) / areas[reach];
+            int area = areas[reach];
+            return area < 1 ? 0 : at(reach) / area;
         }
 
         boolean hasFullChamber(int lock) {
@@ -799,7 +805,7 @@ public final class BargeRiver {
             if (place < 0 || place >= reaches) {
                 return 0;
             }
-            return at(place) - HIGHEST_LEVEL * areas[place];
+            return amounts[place - AIR] - HIGHEST_LEVEL * areas[place];
         }
 
         int throughTotal() {
